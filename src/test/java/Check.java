@@ -75,9 +75,9 @@ final class Check {
         due("count(2) behind the fault of " + text, 0, x.count(2));
     }
 
-    /** A text whose fault is at the ! in it, which is no part of it. */
+    /** A text whose fault is at the @ in it, which is no part of it. */
     static void faultyAt(String marked, int number) {
-        int place = marked.indexOf('!');
+        int place = marked.indexOf('@');
         faulty(marked.substring(0, place) + marked.substring(place + 1), number, place);
     }
 
