@@ -18,8 +18,9 @@ public final class LogicText {
     private static final int MOST_TOLD = 2 * MOST_BYTES;
     // Twenty brackets of three nodes, twenty tests of two and forty sums stay under it.
     private static final int DEEPEST = 200;
-    // The least value of a NUMBER that is too much even behind a minus.
-    private static final long TOO_MUCH = 2147483649L;
+    private static final long MOST_VALUE = 2147483647L;
+    // The least NUMBER that is too much even behind a minus.
+    private static final long TOO_MUCH = MOST_VALUE + 2;
 
     private static final int STRANGE_BYTE = 1;
     private static final int LONG_NAME = 2;
@@ -75,19 +76,16 @@ public final class LogicText {
     private final byte[] text;
     private int length;
     private Book book;
-    // A text is read into the spare book, so that a fault leaves what was read before.
-    private Book spare;
     private final Reader reader;
-    private final Teller teller;
+    private final Out out;
 
     public LogicText() {
         waiting = new int[MOST_WAITING / 4];
         text = new byte[MOST_BYTES];
         length = 0;
         book = new Book();
-        spare = new Book();
-        reader = new Reader(spare);
-        teller = new Teller(book);
+        reader = new Reader();
+        out = new Out();
     }
 
     public void feed(int a, int b, int c, int d, int e) {
@@ -113,10 +111,7 @@ public final class LogicText {
     public int read() throws IllegalArgumentException {
         int taken = length;
         length = 0;
-        reader.readText(text, taken, spare);
-        Book before = book;
-        book = spare;
-        spare = before;
+        book = reader.readText(text, taken, book);
         return book.items.count;
     }
 
@@ -216,15 +211,12 @@ public final class LogicText {
         if (!book.items.has(k)) {
             return NONE;
         }
-        teller.writeItem(book, k);
-        return teller.length;
+        new Teller(book, out).writeItem(k);
+        return out.length;
     }
 
     public int letter(int i) {
-        if (i < 0 || i >= teller.length || i >= MOST_TOLD) {
-            return NONE;
-        }
-        return teller.out[i] & 255;
+        return out.byteAt(i);
     }
 
     /** What one text was read into. */
@@ -288,7 +280,7 @@ public final class LogicText {
     /** ITEMS, and for declarations the row of what they list. */
     private static final class Items {
         // A CONSTRUCTOR's entry in the row is its name's number and, above it, how many NAMES follow.
-        private static final int ONE_MORE = 256;
+        private static final int ONE_FIELD = 256;
 
         final int[] sorts;
         final int[] nameNumbers;
@@ -360,10 +352,9 @@ public final class LogicText {
             }
         }
 
-        void listUnder(int constructor, int entry) {
-            list(entry);
+        void setFields(int constructor, int fields) {
             if (constructor >= 0 && constructor < listedCount && constructor < MOST_LISTED) {
-                listed[constructor] += ONE_MORE;
+                listed[constructor] += ONE_FIELD * fields;
             }
         }
 
@@ -381,13 +372,13 @@ public final class LogicText {
         }
 
         int behindConstructor(int at) {
-            return at + 1 + listedAt(at) / ONE_MORE;
+            return at + 1 + listedAt(at) / ONE_FIELD;
         }
 
         int ofConstructor(int at, int what) {
-            int fields = listedAt(at) / ONE_MORE;
+            int fields = listedAt(at) / ONE_FIELD;
             if (what == 0) {
-                return listedAt(at) % ONE_MORE;
+                return listedAt(at) % ONE_FIELD;
             }
             if (what == 1) {
                 return fields;
@@ -519,27 +510,20 @@ public final class LogicText {
             passBlanks();
             place = behind;
             trouble = 0;
-            int c = place >= 0 && place < length ? text[place] : NONE;
-            if (place >= length) {
+            int c = byteAt(place);
+            if (c == NONE) {
                 kind = END;
             } else if (c >= '0' && c <= '9') {
                 takeNumber();
             } else if (isWordByte(c)) {
                 takeName(c >= 'a' ? NAME : VARIABLE);
             } else {
-                // Of two signs that begin alike the longer is tried first.
-                boolean taken = takes("(", OPEN) || takes(")", CLOSE) || takes(",", COMMA)
-                        || takes(".", DOT) || takes(";", SEMICOLON) || takes("+", PLUS)
-                        || takes("--->", ARROW) || takes("->", THEN) || takes("-", MINUS)
-                        || takes("*", TIMES) || takes("//", OVER) || takes(":-", IF)
-                        || takes("=:=", SAME) || takes("=\\=", DIFFERENT) || takes("=<", AT_MOST)
-                        || takes("=", EQUAL) || takes("\\=", UNEQUAL) || takes("<", LESS)
-                        || takes(">=", AT_LEAST) || takes(">", MORE);
-                if (!taken) {
-                    kind = BAD;
-                    trouble = STRANGE_BYTE;
-                }
+                takeSign(c, byteAt(place + 1));
             }
+        }
+
+        private int byteAt(int i) {
+            return i >= 0 && i < length ? text[i] & 255 : NONE;
         }
 
         /** Whether the word is just these letters. */
@@ -579,7 +563,7 @@ public final class LogicText {
             for (; behind < length && text[behind] >= '0' && text[behind] <= '9'; behind++) {
                 value = Math.min(value * 10 + text[behind] - '0', TOO_MUCH);
             }
-            if (value > Integer.MAX_VALUE) {
+            if (value > MOST_VALUE) {
                 trouble = BIG_NUMBER;
             }
         }
@@ -613,10 +597,55 @@ public final class LogicText {
             }
         }
 
-        private boolean takes(String sign, int signKind) {
-            behind = place + sign.length();
-            kind = signKind;
-            return spells(sign);
+        private void takeSign(int c, int next) {
+            boolean closed = byteAt(place + 2) == '=';
+            switch (c) {
+                case '(': setSign(OPEN, 1); break;
+                case ')': setSign(CLOSE, 1); break;
+                case ',': setSign(COMMA, 1); break;
+                case '.': setSign(DOT, 1); break;
+                case ';': setSign(SEMICOLON, 1); break;
+                case '+': setSign(PLUS, 1); break;
+                case '*': setSign(TIMES, 1); break;
+                case '<': setSign(LESS, 1); break;
+                case '/': setSign(next == '/' ? OVER : BAD, 2); break;
+                case ':': setSign(next == '-' ? IF : BAD, 2); break;
+                case '\\': setSign(next == '=' ? UNEQUAL : BAD, 2); break;
+                case '>':
+                    if (next == '=') {
+                        setSign(AT_LEAST, 2);
+                    } else {
+                        setSign(MORE, 1);
+                    }
+                    break;
+                case '-':
+                    if (next == '>') {
+                        setSign(THEN, 2);
+                    } else if (next == '-' && byteAt(place + 2) == '-' && byteAt(place + 3) == '>') {
+                        setSign(ARROW, 4);
+                    } else {
+                        setSign(MINUS, 1);
+                    }
+                    break;
+                case '=':
+                    if (next == '<') {
+                        setSign(AT_MOST, 2);
+                    } else if (next == ':' && closed) {
+                        setSign(SAME, 3);
+                    } else if (next == '\\' && closed) {
+                        setSign(DIFFERENT, 3);
+                    } else {
+                        setSign(EQUAL, 1);
+                    }
+                    break;
+                default: setSign(BAD, 1); break;
+            }
+        }
+
+        private void setSign(int sign, int bytes) {
+            kind = sign;
+            behind = place + bytes;
+            trouble = sign == BAD ? STRANGE_BYTE : 0;
         }
     }
 
@@ -627,21 +656,22 @@ public final class LogicText {
      */
     private static final class Reader {
         private final Words words;
+        // Not the one that was read before, so that a fault leaves that as it is.
         private Book book;
         private int sums;
         int faultNumber;
         int faultPlace;
 
-        Reader(Book into) {
+        Reader() {
             words = new Words();
-            book = into;
+            book = new Book();
             sums = 0;
             faultNumber = 0;
             faultPlace = NONE;
         }
 
-        void readText(byte[] text, int taken, Book into) {
-            book = into;
+        /** The book of the text; the one that was read before is the next text's. */
+        Book readText(byte[] text, int taken, Book before) {
             book.clear();
             faultNumber = 0;
             faultPlace = NONE;
@@ -667,6 +697,9 @@ public final class LogicText {
                 }
                 pass(DOT);
             }
+            Book done = book;
+            book = before;
+            return done;
         }
 
         private void fail(int number) {
@@ -718,7 +751,9 @@ public final class LogicText {
             pass(ARROW);
             int constructors = 0;
             for (int i = 0; i < MOST_BYTES; i++) {
-                readConstructor();
+                int at = items.listedCount;
+                items.list(passName());
+                items.setFields(at, readListed(TYPE));
                 constructors++;
                 if (!passed(SEMICOLON)) {
                     break;
@@ -727,66 +762,44 @@ public final class LogicText {
             items.setSize(k, constructors);
         }
 
-        private void readConstructor() {
-            int constructor = book.items.listedCount;
-            book.items.list(passName());
-            if (!passed(OPEN)) {
-                return;
-            }
-            for (int i = 0; i < MOST_BYTES; i++) {
-                book.items.listUnder(constructor, passName());
-                if (!passed(COMMA)) {
-                    break;
-                }
-            }
-            pass(CLOSE);
-        }
-
         private void readPred(int place) {
             Items items = book.items;
             int k = items.begin(PRED, passName(), place, items.listedCount);
+            items.setSize(k, readListed(PRED));
+        }
+
+        private void readMode(int place) {
+            Items items = book.items;
+            int k = items.begin(MODE, passName(), place, items.listedCount);
+            items.setSize(k, readListed(MODE));
+            pass(IS);
+            items.setWay(k, passWay());
+        }
+
+        /** Perhaps in ( ) what a declaration of this sort lists: how many. */
+        private int readListed(int sort) {
             if (!passed(OPEN)) {
-                return;
+                return 0;
             }
             int listed = 0;
             for (int i = 0; i < MOST_BYTES; i++) {
-                items.list(passName());
+                book.items.list(sort == MODE ? passDirection() : passName());
                 listed++;
                 if (!passed(COMMA)) {
                     break;
                 }
             }
             pass(CLOSE);
-            items.setSize(k, listed);
-        }
-
-        private void readMode(int place) {
-            Items items = book.items;
-            int k = items.begin(MODE, passName(), place, items.listedCount);
-            if (passed(OPEN)) {
-                int listed = 0;
-                for (int i = 0; i < MOST_BYTES; i++) {
-                    items.list(passDirection());
-                    listed++;
-                    if (!passed(COMMA)) {
-                        break;
-                    }
-                }
-                pass(CLOSE);
-                items.setSize(k, listed);
-            }
-            pass(IS);
-            items.setWay(k, passWay());
+            return listed;
         }
 
         private int passDirection() {
-            if (passedLetters("in")) {
-                return 0;
-            }
-            if (!passedLetters("out")) {
+            boolean in = words.spells("in");
+            if (!in && !words.spells("out")) {
                 refuse();
             }
-            return 1;
+            words.advance();
+            return in ? 0 : 1;
         }
 
         private int passWay() {
@@ -1039,76 +1052,115 @@ public final class LogicText {
             int begun = words.kind;
             sums = 0;
             readTerm(depth);
-            int kind = words.kind;
-            if (kind == EQUAL || kind == UNEQUAL) {
-                insertNode(n, kind, 0);
-                words.advance();
-                readTerm(depth);
-                book.nodes.close(n);
-            } else if (kind == IS && begun == VARIABLE || isComparison(kind)) {
-                readRightSum(n, depth);
-            } else if (kind >= PLUS && kind <= MOD) {
+            if (words.kind >= PLUS && words.kind <= MOD) {
                 continueSum(n, depth);
                 if (!isComparison(words.kind)) {
                     refuse();
                 }
-                readRightSum(n, depth);
-            } else if (begun == NAME) {
-                book.nodes.setSort(n, CALL);
-            } else {
-                refuse();
             }
+            int kind = words.kind;
+            boolean ofTerms = kind == EQUAL || kind == UNEQUAL;
+            boolean ofSums = isComparison(kind) || kind == IS && begun == VARIABLE;
+            if (!ofTerms && !ofSums) {
+                if (begun != NAME) {
+                    refuse();
+                }
+                book.nodes.setSort(n, CALL);
+                return;
+            }
+            insertNode(n, kind, 0);
+            words.advance();
+            if (ofTerms) {
+                readTerm(depth);
+            } else {
+                readSum(depth);
+            }
+            book.nodes.close(n);
         }
 
         private static boolean isComparison(int kind) {
             return kind >= LESS && kind <= DIFFERENT;
         }
+    }
 
-        private void readRightSum(int n, int depth) {
-            insertNode(n, words.kind, 0);
-            words.advance();
-            readSum(depth);
-            book.nodes.close(n);
+    /** The text that an ITEM was told as. */
+    private static final class Out {
+        private final byte[] bytes;
+        int length;
+
+        Out() {
+            bytes = new byte[MOST_TOLD];
+            length = 0;
+        }
+
+        int byteAt(int i) {
+            return i >= 0 && i < length && i < MOST_TOLD ? bytes[i] & 255 : NONE;
+        }
+
+        void putByte(int letter) {
+            if (length >= 0 && length < MOST_TOLD) {
+                bytes[length] = (byte) letter;
+                length++;
+            }
+        }
+
+        void put(String letters) {
+            for (int i = 0; i < letters.length(); i++) {
+                putByte(letters.charAt(i));
+            }
+        }
+
+        void putNumber(int number) {
+            long rest = number;
+            if (rest < 0) {
+                putByte('-');
+                rest = -rest;
+            }
+            boolean begun = false;
+            for (long unit = 1000000000L; unit > 0; unit /= 10) {
+                long digit = rest / unit % 10;
+                begun = begun || digit > 0 || unit == 1;
+                if (begun) {
+                    putByte('0' + (int) digit);
+                }
+            }
         }
     }
 
     /** Writes an ITEM as a text. */
     private static final class Teller {
-        final byte[] out;
-        int length;
-        private Book book;
+        private final Book book;
+        private final Out out;
 
-        Teller(Book from) {
-            out = new byte[MOST_TOLD];
-            length = 0;
+        Teller(Book from, Out to) {
             book = from;
+            out = to;
         }
 
-        void writeItem(Book from, int k) {
-            Items items = from.items;
+        void writeItem(int k) {
+            Items items = book.items;
             if (!items.has(k)) {
                 return;
             }
-            book = from;
-            length = 0;
+            out.length = 0;
             switch (items.sorts[k]) {
                 case TYPE: writeType(k); break;
                 case PRED: writePred(k); break;
                 case MODE: writeMode(k); break;
                 default: writeClause(k); break;
             }
-            put(".");
+            out.put(".");
         }
 
         private void writeType(int k) {
             Items items = book.items;
-            put(":- type ");
+            out.put(":- type ");
             putName(items.nameNumbers[k]);
-            put(" ---> ");
+            out.put(" ---> ");
             int at = items.starts[k];
             for (int i = 0; i < items.sizes[k]; i++) {
                 if (i > 0) {
-                    put(" ; ");
+                    out.put(" ; ");
                 }
                 putName(items.ofConstructor(at, 0));
                 putNames(at + 1, items.ofConstructor(at, 1));
@@ -1118,38 +1170,38 @@ public final class LogicText {
 
         private void writePred(int k) {
             Items items = book.items;
-            put(":- pred ");
+            out.put(":- pred ");
             putName(items.nameNumbers[k]);
             putNames(items.starts[k], items.sizes[k]);
         }
 
         private void writeMode(int k) {
             Items items = book.items;
-            put(":- mode ");
+            out.put(":- mode ");
             putName(items.nameNumbers[k]);
             for (int i = 0; i < items.sizes[k]; i++) {
-                put(i == 0 ? "(" : ", ");
-                put(items.listedAt(items.starts[k] + i) == 0 ? "in" : "out");
+                out.put(i == 0 ? "(" : ", ");
+                out.put(items.listedAt(items.starts[k] + i) == 0 ? "in" : "out");
             }
             if (items.sizes[k] > 0) {
-                put(")");
+                out.put(")");
             }
-            put(" is ");
+            out.put(" is ");
             switch (items.ways[k]) {
-                case 0: put("det"); break;
-                case 1: put("semidet"); break;
-                case 2: put("multi"); break;
-                default: put("nondet"); break;
+                case 0: out.put("det"); break;
+                case 1: out.put("semidet"); break;
+                case 2: out.put("multi"); break;
+                default: out.put("nondet"); break;
             }
         }
 
         private void putNames(int start, int names) {
             for (int i = 0; i < names; i++) {
-                put(i == 0 ? "(" : ", ");
+                out.put(i == 0 ? "(" : ", ");
                 putName(book.items.listedAt(start + i));
             }
             if (names > 0) {
-                put(")");
+                out.put(")");
             }
         }
 
@@ -1158,7 +1210,7 @@ public final class LogicText {
             putName(items.nameNumbers[k]);
             writeList(items.starts[k], items.sizes[k], 0);
             if (items.goals[k] != NONE) {
-                put(" :- ");
+                out.put(" :- ");
                 writeGoal(items.goals[k], 0);
             }
         }
@@ -1167,12 +1219,12 @@ public final class LogicText {
         private void writeList(int n, int terms, int depth) {
             int term = n;
             for (int i = 0; i < terms; i++) {
-                put(i == 0 ? "(" : ", ");
+                out.put(i == 0 ? "(" : ", ");
                 writeTerm(term, depth + 1);
                 term += book.nodes.sizeOf(term);
             }
             if (terms > 0) {
-                put(")");
+                out.put(")");
             }
         }
 
@@ -1184,13 +1236,13 @@ public final class LogicText {
             switch (book.nodes.sortOf(n)) {
                 case VARIABLE:
                     if (value == NONE) {
-                        put("_");
+                        out.put("_");
                     } else {
                         putName(value);
                     }
                     break;
                 case NUMBER:
-                    putNumber(value);
+                    out.putNumber(value);
                     break;
                 default:
                     putName(value);
@@ -1200,24 +1252,27 @@ public final class LogicText {
         }
 
         private void writeSum(int n, int depth) {
+            if (depth > DEEPEST) {
+                return;
+            }
             int sort = book.nodes.sortOf(n);
-            if (depth > DEEPEST || sort < PLUS || sort > MOD) {
+            if (sort < PLUS || sort > MOD) {
                 writeTerm(n, depth);
                 return;
             }
             int side = n + 1;
             for (int i = 0; i < 2; i++) {
                 if (i == 1) {
-                    put(signOf(sort));
+                    out.put(signOf(sort));
                 }
-                int tighter = bindingOf(book.nodes.sortOf(side)) - bindingOf(sort);
-                boolean closed = tighter < i;
+                // The left side may bind as much, the right one has to bind more.
+                boolean closed = bindingOf(book.nodes.sortOf(side)) < bindingOf(sort) + i;
                 if (closed) {
-                    put("(");
+                    out.put("(");
                 }
                 writeSum(side, depth + 1);
                 if (closed) {
-                    put(")");
+                    out.put(")");
                 }
                 side += book.nodes.sizeOf(side);
             }
@@ -1231,27 +1286,30 @@ public final class LogicText {
         }
 
         private void writeGoal(int n, int depth) {
+            if (depth > DEEPEST) {
+                return;
+            }
             int sort = book.nodes.sortOf(n);
-            if (depth > DEEPEST || sort < NOT) {
+            if (sort < NOT) {
                 writePlain(n, depth);
                 return;
             }
             if (sort == NOT) {
-                put("not ");
+                out.put("not ");
             }
             int parts = book.nodes.partsOf(n);
             int part = n + 1;
             for (int i = 0; i < parts; i++) {
                 if (i > 0) {
-                    put(signBetween(sort, i));
+                    out.put(signBetween(sort, i));
                 }
                 boolean closed = isClosed(sort, i, parts, book.nodes.sortOf(part));
                 if (closed) {
-                    put("(");
+                    out.put("(");
                 }
                 writeGoal(part, depth + 1);
                 if (closed) {
-                    put(")");
+                    out.put(")");
                 }
                 part += book.nodes.sizeOf(part);
             }
@@ -1278,14 +1336,14 @@ public final class LogicText {
         private void writePlain(int n, int depth) {
             int sort = book.nodes.sortOf(n);
             if (sort == TRUE) {
-                put("true");
+                out.put("true");
             } else if (sort == FAIL) {
-                put("fail");
+                out.put("fail");
             } else if (sort == CALL) {
                 writeTerm(n, depth);
             } else {
                 writeSum(n + 1, depth);
-                put(signOf(sort));
+                out.put(signOf(sort));
                 writeSum(book.nodes.follower(n + 1, 1), depth);
             }
         }
@@ -1309,40 +1367,11 @@ public final class LogicText {
             }
         }
 
-        private void put(String letters) {
-            for (int i = 0; i < letters.length(); i++) {
-                putByte(letters.charAt(i));
-            }
-        }
-
-        private void putByte(int letter) {
-            if (length >= 0 && length < MOST_TOLD) {
-                out[length] = (byte) letter;
-                length++;
-            }
-        }
-
         private void putName(int k) {
             for (int i = 0; i < MOST_LETTERS; i++) {
                 int letter = book.names.letterOf(k, i);
                 if (letter != NONE) {
-                    putByte(letter);
-                }
-            }
-        }
-
-        private void putNumber(int number) {
-            long rest = number;
-            if (rest < 0) {
-                put("-");
-                rest = -rest;
-            }
-            boolean begun = false;
-            for (long unit = 1000000000L; unit > 0; unit /= 10) {
-                long digit = rest / unit % 10;
-                begun = begun || digit > 0 || unit == 1;
-                if (begun) {
-                    putByte('0' + (int) digit);
+                    out.putByte(letter);
                 }
             }
         }
