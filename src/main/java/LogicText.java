@@ -735,10 +735,8 @@ public final class LogicText {
             return true;
         }
 
+        /** Passes a ( that can stand here. */
         private void passOpen(int depth) {
-            if (words.kind != OPEN) {
-                refuse();
-            }
             if (depth >= MOST_AROUND) {
                 fail(TOO_DEEP);
             }

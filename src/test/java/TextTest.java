@@ -7,6 +7,7 @@ public final class TextTest {
         longestText();
         readTakesTheText();
         faultKeepsWhatWasRead();
+        nothingIsLeftOfEarlierTexts();
         Check.finish();
     }
 
@@ -138,6 +139,28 @@ public final class TextTest {
         Check.due("letter(13) stays", -1, x.letter(13));
     }
 
+    private static void nothingIsLeftOfEarlierTexts() {
+        String small = "p(Y) :- q. :- type t ---> a(t) ; b.";
+        String want = everything(Check.reads(small));
+        LogicText x = new LogicText();
+        String[] texts = {"s(t, u(V, W)) :- x = y, z. b. c. :- pred d(e, f, g).", "h(i, j(K, L)) :- m = n, o. q.",
+            "a(b, c, d) :- e ; f, g. :- pred h(i, j). [", "k(l, m) :- n(o, P), Q = r. :- type s ---> t(u, v). w :-"};
+        for (int i = 0; i < 4; i++) {
+            for (int j = 0; j <= i; j++) {
+                Check.read(x, texts[(i + j) % 4]);
+            }
+            Check.due("read() of a small text", 2, Check.read(x, small));
+            Check.due("what is read behind others", want, everything(x));
+        }
+        // What was listed ahead of a fault takes no room.
+        x = new LogicText();
+        String many = ":- pred p(" + "a,".repeat(760) + "b).";
+        Check.due("read() of many and a fault", Check.THROWN, Check.read(x, many + "["));
+        Check.due("read() of many", 1, Check.read(x, many));
+        Check.due("item(0, 2) of many", 761, x.item(0, 2));
+        Check.due("part(0, 760, 0) of many", 2, x.part(0, 760, 0));
+    }
+
     private static String everything(LogicText x) {
         StringBuilder out = new StringBuilder();
         for (int k = 0; k <= x.count(0); k++) {
@@ -152,6 +175,13 @@ public final class TextTest {
         }
         for (int k = 0; k <= x.count(2); k++) {
             out.append(Check.name(x, k)).append(' ');
+        }
+        for (int k = 0; k < x.count(0); k++) {
+            for (int i = 0; i <= x.item(k, 2); i++) {
+                for (int what = 0; what < 5; what++) {
+                    out.append(x.part(k, i, what)).append(' ');
+                }
+            }
         }
         return out.toString();
     }
