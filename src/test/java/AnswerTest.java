@@ -31,7 +31,7 @@ public final class AnswerTest {
         Check.due(call, java.util.Arrays.toString(want), java.util.Arrays.toString(got));
     }
 
-    private static int[] item(LogicText x, int k) {
+    private static int[] item(Used x, int k) {
         int[] answers = new int[7];
         for (int what = 0; what < 7; what++) {
             answers[what] = x.item(k, what);
@@ -39,7 +39,7 @@ public final class AnswerTest {
         return answers;
     }
 
-    private static int[] part(LogicText x, int k, int i, int whats) {
+    private static int[] part(Used x, int k, int i, int whats) {
         int[] answers = new int[whats];
         for (int what = 0; what < whats; what++) {
             answers[what] = x.part(k, i, what);
@@ -47,7 +47,7 @@ public final class AnswerTest {
         return answers;
     }
 
-    private static int[] node(LogicText x, int n, int whats) {
+    private static int[] node(Used x, int n, int whats) {
         int[] answers = new int[whats];
         for (int what = 0; what < whats; what++) {
             answers[what] = x.node(n, what);
@@ -56,7 +56,7 @@ public final class AnswerTest {
     }
 
     private static void counts() {
-        LogicText x = Check.reads(TEXT);
+        Used x = Check.reads(TEXT);
         Check.due("count(0)", 8, x.count(0));
         Check.due("count(1)", 6 + 9 + 1, x.count(1));
         Check.due("count(2)", 13, x.count(2));
@@ -67,7 +67,7 @@ public final class AnswerTest {
     }
 
     private static void items() {
-        LogicText x = Check.reads(TEXT);
+        Used x = Check.reads(TEXT);
         row("item 0", new int[] {0, 0, 3, -1, -1, 0, -1}, item(x, 0));
         row("item 1", new int[] {1, 5, 2, -1, -1, TEXT.indexOf(":- pred p"), -1}, item(x, 1));
         row("item 2", new int[] {1, 6, 0, -1, -1, TEXT.indexOf(":- pred q"), -1}, item(x, 2));
@@ -81,7 +81,7 @@ public final class AnswerTest {
     }
 
     private static void parts() {
-        LogicText x = Check.reads(TEXT);
+        Used x = Check.reads(TEXT);
         row("part 0 of a type", new int[] {1, 0, -1, -1}, part(x, 0, 0, 4));
         row("part 1 of a type", new int[] {2, 3, 0, 3, 0, -1, -1}, part(x, 0, 1, 7));
         row("part 2 of a type", new int[] {4, 1, 3, -1, -1}, part(x, 0, 2, 5));
@@ -106,7 +106,7 @@ public final class AnswerTest {
     }
 
     private static void ways() {
-        LogicText x = Check.reads(":- mode a is det. :- mode a(out)is semidet. :- mode a(in,in,out) is multi. :- mode a is nondet.");
+        Used x = Check.reads(":- mode a is det. :- mode a(out)is semidet. :- mode a(in,in,out) is multi. :- mode a is nondet.");
         for (int k = 0; k < 4; k++) {
             Check.due("item(" + k + ", 3)", k, x.item(k, 3));
         }
@@ -117,7 +117,7 @@ public final class AnswerTest {
     }
 
     private static void nodes() {
-        LogicText x = Check.reads(TEXT);
+        Used x = Check.reads(TEXT);
         row("node 0, X", new int[] {0, 7, 0, TEXT.indexOf("X,"), -1}, node(x, 0, 5));
         row("node 1, f", new int[] {2, 8, 2, TEXT.indexOf("f(Y"), 2, 3, -1}, node(x, 1, 7));
         row("node 2, Y", new int[] {0, 9, 0, TEXT.indexOf("Y,"), -1}, node(x, 2, 5));
@@ -134,15 +134,15 @@ public final class AnswerTest {
     private static void sorts() {
         String[] signs = {"=", "\\=", "is", "<", "=<", ">", ">=", "=:=", "=\\="};
         for (int i = 0; i < signs.length; i++) {
-            LogicText x = Check.reads("p :- X " + signs[i] + " 5.");
+            Used x = Check.reads("p :- X " + signs[i] + " 5.");
             row("the node of " + signs[i], new int[] {12 + i, 0, 2, 7, 1, 2, -1}, node(x, 0, 7));
         }
         String[] operators = {"+", "-", "*", "//", "mod"};
         for (int i = 0; i < operators.length; i++) {
-            LogicText x = Check.reads("p :- X is 4 " + operators[i] + " 5.");
+            Used x = Check.reads("p :- X is 4 " + operators[i] + " 5.");
             row("the node of " + operators[i], new int[] {3 + i, 0, 2, 12, 3, 4, -1}, node(x, 2, 7));
         }
-        LogicText x = Check.reads("p :- true. p :- fail. p :- q(1). p :- not q. p :- a -> b ; c.");
+        Used x = Check.reads("p :- true. p :- fail. p :- q(1). p :- not q. p :- a -> b ; c.");
         row("true", new int[] {10, 0, 0, 5, -1}, node(x, 0, 5));
         row("fail", new int[] {11, 0, 0, 16, -1}, node(x, 1, 5));
         row("a call", new int[] {21, 1, 1, 27, 3, -1}, node(x, 2, 6));
@@ -156,19 +156,9 @@ public final class AnswerTest {
         Check.due("a call behind them", 21, x.node(12, 0));
     }
 
-    /** A node and its parts: its sort, and in ( ) those of its parts. */
-    private static String shape(LogicText x, int n) {
-        StringBuilder out = new StringBuilder();
-        out.append(x.node(n, 0));
-        for (int i = 0; i < x.node(n, 2); i++) {
-            out.append(i == 0 ? "(" : " ").append(shape(x, x.node(n, 4 + i)));
-        }
-        return out.append(x.node(n, 2) > 0 ? ")" : "").toString();
-    }
-
     private static void shape(String goal, String want) {
-        LogicText x = Check.reads("p :- " + goal + ".");
-        Check.due("the shape of " + goal, want, shape(x, x.item(0, 4)));
+        Used x = Check.reads("p :- " + goal + ".");
+        Check.due("the shape of " + goal, want, Check.shape(x, x.item(0, 4)));
     }
 
     private static void shapes() {
@@ -212,7 +202,7 @@ public final class AnswerTest {
     }
 
     private static void places() {
-        LogicText x = Check.reads("p :- a , b , c ; d ; e -> f ; g ; h.");
+        Used x = Check.reads("p :- a , b , c ; d ; e -> f ; g ; h.");
         Check.due("a choice, at its first ;", 15, x.node(0, 3));
         Check.due("a row, at its first ,", 7, x.node(1, 3));
         Check.due("a test, at ->", 23, x.node(6, 3));
@@ -230,7 +220,7 @@ public final class AnswerTest {
     }
 
     private static void names() {
-        LogicText x = Check.reads(TEXT);
+        Used x = Check.reads(TEXT);
         String[] want = {"tree", "leaf", "fork", "int", "one", "p", "q", "X", "f", "Y", "r", "s", "g"};
         for (int k = 0; k < want.length; k++) {
             Check.due("name " + k, want[k], Check.name(x, k));
@@ -250,7 +240,7 @@ public final class AnswerTest {
     }
 
     private static void unnumbered() {
-        LogicText x = Check.reads(":- type type ---> type(in, out) ; is_ ; nott. :- pred pred(mode). :- mode mode(in) is det.\n"
+        Used x = Check.reads(":- type type ---> type(in, out) ; is_ ; nott. :- pred pred(mode). :- mode mode(in) is det.\n"
                 + "det(In, Is, _, __) :- semidet, in = Not, true, not mode, X is 1 mod 2.");
         String[] want = {"type", "in", "out", "is_", "nott", "pred", "mode", "det", "In", "Is", "__", "semidet", "Not", "X"};
         Check.due("count(2)", want.length, x.count(2));
@@ -265,7 +255,7 @@ public final class AnswerTest {
     }
 
     private static void finds() {
-        LogicText x = Check.reads("abcdefghijklmnop(abcdefgh, b, ijklmnop, ab, ba).");
+        Used x = Check.reads("abcdefghijklmnop(abcdefgh, b, ijklmnop, ab, ba).");
         Check.due("sixteen bytes", 0, x.find(0x6162636465666768L, 0x696A6B6C6D6E6F70L));
         Check.due("eight bytes in first", 1, x.find(0x6162636465666768L, 0));
         Check.due("eight bytes in second", 1, x.find(0, 0x6162636465666768L));
@@ -283,7 +273,7 @@ public final class AnswerTest {
     }
 
     private static void wildNumbers() {
-        LogicText x = Check.reads(TEXT);
+        Used x = Check.reads(TEXT);
         for (int wild : WILD) {
             Check.due("item(" + wild + ", 0)", -1, x.item(wild, 0));
             Check.due("item(0, " + wild + ")", -1, x.item(0, wild));

@@ -13,19 +13,24 @@ final class Check {
     static void due(String call, long want, long got) {
         if (got != want) {
             wrong++;
-            System.out.println(call + " answered " + got + ", due is " + want);
+            System.out.println(shortened(call) + " answered " + got + ", due is " + want);
         }
     }
 
     static void due(String call, String want, String got) {
         if (!got.equals(want)) {
             wrong++;
-            System.out.println(call + " answered\n  " + got + "\ndue is\n  " + want);
+            System.out.println(shortened(call) + " answered\n  " + got + "\ndue is\n  " + want);
         }
     }
 
+    private static String shortened(String call) {
+        int length = call.length();
+        return length <= 200 ? call : call.substring(0, 120) + " .. " + call.substring(length - 70);
+    }
+
     /** Puts a text behind the TEXT; what the last end() answered. */
-    static int put(LogicText x, String text) {
+    static int put(Used x, String text) {
         byte[] bytes = text.getBytes(StandardCharsets.ISO_8859_1);
         int answer = LogicText.NONE;
         for (int from = 0; from < bytes.length; from += 20) {
@@ -41,7 +46,7 @@ final class Check {
     }
 
     /** What read() answers, or THROWN. */
-    static int read(LogicText x) {
+    static int read(Used x) {
         try {
             return x.read();
         } catch (IllegalArgumentException e) {
@@ -49,14 +54,14 @@ final class Check {
         }
     }
 
-    static int read(LogicText x, String text) {
+    static int read(Used x, String text) {
         put(x, text);
         return read(x);
     }
 
     /** A new object that has read a text without a fault. */
-    static LogicText reads(String text) {
-        LogicText x = new LogicText();
+    static Used reads(String text) {
+        Used x = new Used();
         int answer = read(x, text);
         due("fault(0) of " + text, 0, x.fault(0));
         due("fault(1) of " + text, LogicText.NONE, x.fault(1));
@@ -66,7 +71,7 @@ final class Check {
 
     /** A text with a fault of this number and place. */
     static void faulty(String text, int number, int place) {
-        LogicText x = new LogicText();
+        Used x = new Used();
         due("read() of " + text, THROWN, read(x, text));
         due("fault(0) of " + text, number, x.fault(0));
         due("fault(1) of " + text, place, x.fault(1));
@@ -81,7 +86,7 @@ final class Check {
         faulty(marked.substring(0, place) + marked.substring(place + 1), number, place);
     }
 
-    static String told(LogicText x, int k) {
+    static String told(Used x, int k) {
         int length = x.tell(k);
         StringBuilder out = new StringBuilder();
         for (int i = 0; i < length; i++) {
@@ -92,7 +97,7 @@ final class Check {
     }
 
     /** A name's bytes as a text. */
-    static String name(LogicText x, int k) {
+    static String name(Used x, int k) {
         StringBuilder out = new StringBuilder();
         for (int i = 0; x.name(k, i) != LogicText.NONE && i < 100; i++) {
             out.append((char) x.name(k, i));
@@ -100,8 +105,42 @@ final class Check {
         return out.toString();
     }
 
+    /** All that was read but the places. */
+    static String all(Used x) {
+        StringBuilder out = new StringBuilder();
+        for (int k = 0; k < x.count(0); k++) {
+            for (int what = 0; what < 5; what++) {
+                out.append(x.item(k, what)).append(' ');
+            }
+            for (int i = 0; i < x.item(k, 2); i++) {
+                for (int what = 0; what < 6; what++) {
+                    out.append(x.part(k, i, what)).append(' ');
+                }
+            }
+        }
+        for (int n = 0; n < x.count(1); n++) {
+            for (int what = 0; what < 4 + x.node(n, 2); what++) {
+                out.append(what == 3 ? 0 : x.node(n, what)).append(' ');
+            }
+        }
+        for (int k = 0; k < x.count(2); k++) {
+            out.append(Check.name(x, k)).append(' ');
+        }
+        return out.toString();
+    }
+
+    /** A node and its parts: its sort, and in ( ) those of its parts. */
+    static String shape(Used x, int n) {
+        StringBuilder out = new StringBuilder();
+        out.append(x.node(n, 0));
+        for (int i = 0; i < x.node(n, 2); i++) {
+            out.append(i == 0 ? "(" : " ").append(shape(x, x.node(n, 4 + i)));
+        }
+        return out.append(x.node(n, 2) > 0 ? ")" : "").toString();
+    }
+
     /** The two numbers that find() takes for a name. */
-    static int find(LogicText x, String name) {
+    static int find(Used x, String name) {
         long[] two = new long[2];
         for (int i = 0; i < name.length(); i++) {
             two[i / 8] |= (long) name.charAt(i) << (56 - 8 * (i % 8));

@@ -14,7 +14,7 @@ public final class FaultTest {
     }
 
     private static void otherWhats() {
-        LogicText x = new LogicText();
+        Used x = new Used();
         Check.read(x, "p :- .");
         Check.due("fault(0)", 4, x.fault(0));
         Check.due("fault(1)", 5, x.fault(1));
@@ -66,7 +66,7 @@ public final class FaultTest {
     }
 
     private static void bigNumbers() {
-        LogicText x = Check.reads("p(2147483647, -2147483648, - 2147483648, 000000000000002147483647, -0).");
+        Used x = Check.reads("p(2147483647, -2147483648, - 2147483648, 000000000000002147483647, -0).");
         Check.due("the most", Integer.MAX_VALUE, x.node(0, 1));
         Check.due("the least", Integer.MIN_VALUE, x.node(1, 1));
         Check.due("the least behind a blank", Integer.MIN_VALUE, x.node(2, 1));

@@ -92,7 +92,7 @@ public final class LimitTest {
     }
 
     private static void items() {
-        LogicText x = Check.reads(times("a.", 120));
+        Used x = Check.reads(times("a.", 120));
         Check.due("count(0)", 120, x.count(0));
         Check.due("item(119, 5)", 238, x.item(119, 5));
         Check.due("item(120, 5)", -1, x.item(120, 5));
@@ -121,7 +121,7 @@ public final class LimitTest {
     }
 
     private static void names() {
-        LogicText x = Check.reads("p(" + manyNames(149) + ").");
+        Used x = Check.reads("p(" + manyNames(149) + ").");
         Check.due("count(2)", 150, x.count(2));
         Check.due("name 149", "a248", Check.name(x, 149));
         Check.due("name 150", "", Check.name(x, 150));
@@ -143,7 +143,7 @@ public final class LimitTest {
 
     private static void nodes() {
         String full = "p(" + times("a,", 1199) + "a)";
-        LogicText x = Check.reads(full + ".");
+        Used x = Check.reads(full + ".");
         Check.due("count(1)", 1200, x.count(1));
         Check.due("item(0, 2)", 1200, x.item(0, 2));
         Check.due("part(0, 1199, 0)", 1199, x.part(0, 1199, 0));
@@ -170,7 +170,7 @@ public final class LimitTest {
             Check.faultyAt("p(" + times("a,", 1198) + "a):-" + goal, 6);
         }
         Check.faultyAt("p(" + times("a,", 1197) + "a):-a,@b.", 6);
-        LogicText x = Check.reads("p(" + times("a,", 1196) + "a):-a,b.");
+        Used x = Check.reads("p(" + times("a,", 1196) + "a):-a,b.");
         Check.due("count(1) of a row", 1200, x.count(1));
         x = Check.reads("p(" + times("a,", 1195) + "a):-a,b,c.");
         Check.due("count(1) of a row of three", 1200, x.count(1));
@@ -194,7 +194,7 @@ public final class LimitTest {
         Check.reads("p :- X is 0" + times("+1", 40) + " ; not 0" + times("+1", 40) + " < 1.");
         Check.reads("p :- (X is 0" + times("+1", 40) + ", Y is 0" + times("+1", 40) + ").");
         Check.reads("p :- not (X is 0" + times("+1", 40) + " -> Y is 0" + times("+1", 40) + " ; 1" + times("*1", 40) + " > 2).");
-        LogicText x = Check.reads("p :- X is 0" + times("+(1", 20) + times(")", 20) + times("-1", 20) + ".");
+        Used x = Check.reads("p :- X is 0" + times("+(1", 20) + times(")", 20) + times("-1", 20) + ".");
         Check.due("count(1)", 1 + 1 + 41 + 40, x.count(1));
     }
 
@@ -216,7 +216,7 @@ public final class LimitTest {
         // Through second parts, then through last parts, then through sums, as deep as it goes.
         String goal = times("a ; b -> c ; ", 20) + "d, 0" + times("+1", 40) + " < 2";
         String text = "p :- " + times("a;b->c,(", 20) + goal + times(");d", 20) + ".";
-        LogicText x = Check.reads(text);
+        Used x = Check.reads(text);
         int length = x.tell(0);
         StringBuilder told = new StringBuilder();
         for (int i = 0; i < length; i++) {

@@ -117,7 +117,7 @@ public final class RandomTest {
         if (text.length() > 2500) {
             return;
         }
-        LogicText x = Check.reads(text.toString());
+        Used x = Check.reads(text.toString());
         StringBuilder told = new StringBuilder();
         for (int k = 0; k < x.count(0); k++) {
             told.append(Check.told(x, k));
@@ -125,37 +125,13 @@ public final class RandomTest {
         if (told.length() > 3000) {
             return;
         }
-        LogicText y = Check.reads(told.toString());
-        Check.due("what is read of " + told, all(x), all(y));
+        Used y = Check.reads(told.toString());
+        Check.due("what is read of " + told, Check.all(x), Check.all(y));
         StringBuilder again = new StringBuilder();
         for (int k = 0; k < y.count(0); k++) {
             again.append(Check.told(y, k));
         }
         Check.due("told again", told.toString(), again.toString());
-    }
-
-    /** All that was read but the places. */
-    private static String all(LogicText x) {
-        StringBuilder out = new StringBuilder();
-        for (int k = 0; k < x.count(0); k++) {
-            for (int what = 0; what < 5; what++) {
-                out.append(x.item(k, what)).append(' ');
-            }
-            for (int i = 0; i < x.item(k, 2); i++) {
-                for (int what = 0; what < 6; what++) {
-                    out.append(x.part(k, i, what)).append(' ');
-                }
-            }
-        }
-        for (int n = 0; n < x.count(1); n++) {
-            for (int what = 0; what < 4 + x.node(n, 2); what++) {
-                out.append(what == 3 ? 0 : x.node(n, what)).append(' ');
-            }
-        }
-        for (int k = 0; k < x.count(2); k++) {
-            out.append(Check.name(x, k)).append(' ');
-        }
-        return out.toString();
     }
 
     private void saladHasAFault() {
@@ -166,7 +142,7 @@ public final class RandomTest {
         if (random.nextInt(10) == 0) {
             text.append((char) random.nextInt(256));
         }
-        LogicText x = new LogicText();
+        Used x = new Used();
         int answer = Check.read(x, text.toString());
         boolean fault = answer == Check.THROWN;
         Check.due("a fault's number, of " + text, fault ? 1 : 0, x.fault(0) > 0 && x.fault(0) < 7 ? 1 : 0);
@@ -176,7 +152,7 @@ public final class RandomTest {
         }
         // What stands ahead of the fault's place has no fault but its end.
         String ahead = fault ? text.substring(0, x.fault(1)) : text.toString();
-        LogicText y = new LogicText();
+        Used y = new Used();
         if (Check.read(y, ahead) == Check.THROWN) {
             Check.due("the fault of what is ahead, of " + text, 4, y.fault(0));
             Check.due("the place of what is ahead, of " + text, ahead.length(), y.fault(1));

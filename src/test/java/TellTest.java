@@ -11,7 +11,7 @@ public final class TellTest {
 
     /** What the one item of a text is told as. */
     private static void told(String text, String want) {
-        LogicText x = Check.reads(text);
+        Used x = Check.reads(text);
         Check.due("told of " + text, want, Check.told(x, 0));
         Check.due("tell(0) of " + text, want.length(), x.tell(0));
     }
@@ -103,7 +103,7 @@ public final class TellTest {
     }
 
     private static void out() {
-        LogicText x = Check.reads("p(X). :- pred q(a).");
+        Used x = Check.reads("p(X). :- pred q(a).");
         Check.due("letter(0) before tell", -1, x.letter(0));
         Check.due("tell(2) before tell", -1, x.tell(2));
         Check.due("letter(0) still", -1, x.letter(0));
@@ -129,7 +129,7 @@ public final class TellTest {
     /** A text of 3000 bytes that is told with a blank to nearly each. */
     private static void longest() {
         String text = "p:-" + "X<1;".repeat(299) + "a;".repeat(3) + "aaa" + ".";
-        LogicText x = Check.reads(text);
+        Used x = Check.reads(text);
         String want = "p :- " + "X < 1 ; ".repeat(299) + "a ; ".repeat(3) + "aaa.";
         Check.due("tell(0) of much", want.length(), x.tell(0));
         Check.due("told of much", want, Check.told(x, 0));

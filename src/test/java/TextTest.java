@@ -12,7 +12,7 @@ public final class TextTest {
     }
 
     private static void newObject() {
-        LogicText x = new LogicText();
+        Used x = new Used();
         Check.due("fault(0) of a new object", 0, x.fault(0));
         Check.due("fault(1) of a new object", -1, x.fault(1));
         for (int what = 0; what < 3; what++) {
@@ -42,7 +42,7 @@ public final class TextTest {
     }
 
     private static void waitingBytes() {
-        LogicText x = new LogicText();
+        Used x = new Used();
         x.feed(four("zzzz"), four("zzzz"), four("zzzz"), four("zzzz"), four("zzzz"));
         x.feed(four("abcd"), four("efgh"), four("ijkl"), four("mnop"), four(".xy."));
         Check.due("end(20)", 20, x.end(20));
@@ -75,7 +75,7 @@ public final class TextTest {
     }
 
     private static void refusedEnds() {
-        LogicText x = new LogicText();
+        Used x = new Used();
         x.feed(four("ab.c"), 0, 0, 0, 0);
         int[] refused = {21, -1, Integer.MAX_VALUE, Integer.MIN_VALUE, 24};
         for (int n : refused) {
@@ -86,7 +86,7 @@ public final class TextTest {
     }
 
     private static void longestText() {
-        LogicText x = new LogicText();
+        Used x = new Used();
         Check.due("2980 bytes", 2980, Check.put(x, " ".repeat(2980)));
         x.feed(four("   a"), four("b.cd"), four("e.fg"), 0, 0);
         Check.due("end(6)", 2986, x.end(6));
@@ -103,7 +103,7 @@ public final class TextTest {
     }
 
     private static void readTakesTheText() {
-        LogicText x = new LogicText();
+        Used x = new Used();
         Check.due("read()", 2, Check.read(x, "a. b :- c."));
         Check.due("read() again", 0, Check.read(x));
         for (int what = 0; what < 3; what++) {
@@ -115,14 +115,14 @@ public final class TextTest {
         Check.due("name 0 in parts", "abc", Check.name(x, 0));
     }
 
-    private static int readInParts(LogicText x) {
+    private static int readInParts(Used x) {
         Check.put(x, "a");
         Check.put(x, "b");
         return Check.read(x, "c.");
     }
 
     private static void faultKeepsWhatWasRead() {
-        LogicText x = new LogicText();
+        Used x = new Used();
         Check.due("read()", 2, Check.read(x, "p(X, 7) :- q. r."));
         String before = everything(x);
         Check.due("tell(0)", 13, x.tell(0));
@@ -142,7 +142,7 @@ public final class TextTest {
     private static void nothingIsLeftOfEarlierTexts() {
         String small = "p(Y) :- q. :- type t ---> a(t) ; b.";
         String want = everything(Check.reads(small));
-        LogicText x = new LogicText();
+        Used x = new Used();
         String[] texts = {"s(t, u(V, W)) :- x = y, z. b. c. :- pred d(e, f, g).", "h(i, j(K, L)) :- m = n, o. q.",
             "a(b, c, d) :- e ; f, g. :- pred h(i, j). [", "k(l, m) :- n(o, P), Q = r. :- type s ---> t(u, v). w :-"};
         for (int i = 0; i < 4; i++) {
@@ -153,7 +153,7 @@ public final class TextTest {
             Check.due("what is read behind others", want, everything(x));
         }
         // What was listed ahead of a fault takes no room.
-        x = new LogicText();
+        x = new Used();
         String many = ":- pred p(" + "a,".repeat(760) + "b).";
         Check.due("read() of many and a fault", Check.THROWN, Check.read(x, many + "["));
         Check.due("read() of many", 1, Check.read(x, many));
@@ -161,7 +161,7 @@ public final class TextTest {
         Check.due("part(0, 760, 0) of many", 2, x.part(0, 760, 0));
     }
 
-    private static String everything(LogicText x) {
+    private static String everything(Used x) {
         StringBuilder out = new StringBuilder();
         for (int k = 0; k <= x.count(0); k++) {
             for (int what = 0; what < 6; what++) {
