@@ -1,6 +1,6 @@
 /**
- * The boundary cases of the document's sentences on FAULTS (which WORD can stand where: FollowTest). Each method has the sentence that it tests
- * above it. An @ marks the place of a fault and is no part of the text.
+ * The boundary cases of the document's sentences on FAULTS (which WORD can stand where: FollowTest). Each
+ * method has the sentence that it tests above it. An @ marks the place of a fault and is no part of the text.
  */
 public final class FaultBoundsTest {
     private static final String LONG = "abcdefghijklmnopq";
@@ -26,6 +26,7 @@ public final class FaultBoundsTest {
         nodesAtTheirWords();
         mostSums();
         sumsOfOneSingle();
+        roomBehindAFault();
         Check.finish();
     }
 
@@ -205,6 +206,12 @@ public final class FaultBoundsTest {
         Used x = Check.reads("p :- X is 1 - -2147483648.");
         Check.due("behind an operator and a -", Integer.MIN_VALUE, x.node(4, 1));
         Check.faultyAt("p :- X is 1 - -@2147483649.", 3);
+        // What stands behind it is no fault of that number.
+        Check.faultyAt("p(-2147483648 @a).", 4);
+        Check.faultyAt("p(-2147483648 @1).", 4);
+        Check.faultyAt("p(-2147483648 @X).", 4);
+        Check.faultyAt("p(-2147483648 @true).", 4);
+        Check.faultyAt("p(-2147483648@", 4);
         Check.faultyAt("p @-2147483648.", 4);
         Check.faultyAt("p(1 @-2147483648).", 4);
     }
@@ -492,5 +499,33 @@ public final class FaultBoundsTest {
         }
         Check.due("40 in each of two items", 2, Check.reads("p :- X is " + forty + ". p :- X is " + forty
                 + ".").count(0));
+    }
+
+    /** What a fault stood behind takes no room, and none is around, when the next text is read. */
+    private static void roomBehindAFault() {
+        String forty = "X is 0" + "+1".repeat(40);
+        String[] full = {"a.".repeat(120), "p(" + names(149) + ").", "p(" + fill(600) + ").", "p:-" + forty + ".",
+            "p:-" + "(".repeat(20) + "a" + ")".repeat(20) + ".", "p:-" + "a->b;".repeat(20) + "c.",
+            "p:-" + "not ".repeat(20) + "a."};
+        String[] faulty = {"a.".repeat(121), "p(" + names(150) + ").", "p(" + fill(600) + "):-[", "p:-" + forty + "+1.",
+            "p:-" + "(".repeat(21), "p:-" + "a->b;".repeat(20) + "c->", "p:-" + "not ".repeat(21), "p:-" + forty,
+            "p:-" + "(".repeat(20) + "q"};
+        for (String fault : faulty) {
+            for (String text : full) {
+                Used x = new Used();
+                Check.due("read() of " + fault, Check.THROWN, Check.read(x, fault));
+                Check.due("read() of " + text, 1, Check.read(x, text) > 0 ? 1 : 0);
+                Check.due("what is read of " + text, Check.all(Check.reads(text)), Check.all(x));
+            }
+        }
+        Used x = new Used();
+        Check.due("read() of 1201 nodes", Check.THROWN, Check.read(x, "p(" + fill(1201)));
+        Check.due("read() of 100", 1, Check.read(x, "p(" + fill(100) + ")."));
+        Check.due("count(1)", 100, x.count(1));
+        x = new Used();
+        Check.due("read() of 700 nodes", 1, Check.read(x, "p(" + fill(700) + ")."));
+        Check.due("read() of 701 nodes", 1, Check.read(x, "p(" + fill(701) + ")."));
+        Check.due("read() of 702 nodes", 1, Check.read(x, "p(" + fill(702) + ")."));
+        Check.due("count(1) of the last", 702, x.count(1));
     }
 }

@@ -18,6 +18,7 @@ public final class PromiseBoundsTest {
         howManyItems();
         aFaultThrows();
         whatWasReadStays();
+        eachReadAnew();
         faultOfTheLatestRead();
         faultForAnotherWhat();
         counts();
@@ -293,6 +294,24 @@ public final class PromiseBoundsTest {
         Check.due("count(1)", 0, x.count(1));
         Check.due("count(2)", 1, x.count(2));
         Check.due("find of p behind z", -1, x.find('p', 0));
+    }
+
+    /** Promise 4: without a fault nothing of what was read before stays, however often one reads. */
+    private static void eachReadAnew() {
+        String[] texts = {"p(X, Y) :- q(Z), r.", "a.", "b(c, d(e)) :- f ; g.", ":- pred h(i, j).", "k(L). m(N)."};
+        Used x = new Used();
+        for (int i = 0; i < 15; i++) {
+            String text = texts[i % 5];
+            Check.due("read() of " + text, i % 5 == 4 ? 2 : 1, Check.read(x, text));
+            Check.due("what is read of " + text, Check.all(Check.reads(text)), Check.all(x));
+            Check.due("a name more", -1, x.name(x.count(2), 0));
+            Check.due("a node more", -1, x.node(x.count(1), 0));
+            Check.due("an item more", -1, x.item(x.count(0), 0));
+            Check.due("a part more", -1, x.part(0, x.item(0, 2), 0));
+            if (i % 3 == 0) {
+                Check.due("read() of a fault", Check.THROWN, Check.read(x, "s(t, U) :- v(W) ; y. z"));
+            }
+        }
     }
 
     /**

@@ -206,6 +206,12 @@ public final class TextBoundsTest {
         }
         Check.due("1--1", 4, Check.reads("p:-X is 1--1.").node(2, 0));
         Check.due("1- -1", 4, Check.reads("p:-X is 1- -1.").node(2, 0));
+        // Nearly a ---> , byte by byte.
+        Check.due("1--2>3", 17, Check.reads("p:-1--2>3.").node(0, 0));
+        Check.due("1--2>=3", 18, Check.reads("p:-1--2>=3.").node(0, 0));
+        Check.due("1-2>3", 17, Check.reads("p:-1-2>3.").node(0, 0));
+        Check.due("-1->", 25, Check.reads("p:-X= -1->a;b.").node(0, 0));
+        Check.due("1-X", 4, Check.reads("p:-1-X>2.").node(1, 0));
         Check.faultyAt("p:-X is 1--@-1.", 4);
         Check.faultyAt("p:-X is 1@--->1.", 4);
     }
