@@ -5,9 +5,28 @@ final class Check {
     /** What readText answers when read() throws. */
     static final int THROWN = -99;
 
+    private static final long MOST_MILLISECONDS = 120_000;
+
     private static int wrong = 0;
 
+    static {
+        Thread watch = new Thread(Check::failWhenTooLong);
+        watch.setDaemon(true);
+        watch.start();
+    }
+
     private Check() {
+    }
+
+    /** A call that never ends is a failed test, not one to wait for. */
+    private static void failWhenTooLong() {
+        try {
+            Thread.sleep(MOST_MILLISECONDS);
+        } catch (InterruptedException e) {
+            return;
+        }
+        System.out.println("the test does not end");
+        Runtime.getRuntime().halt(1);
     }
 
     static void due(String call, long want, long got) {
